@@ -1,0 +1,18 @@
+/** Runs every test of the project. */
+public final class AllTests {
+    private AllTests() {
+    }
+
+    public static void main(String[] args) {
+        Checks checks = new Checks();
+        new FaceTests(checks).run();
+        new GroundTests(checks).run();
+        new HireTests(checks).run();
+        new TextTests(checks).run();
+        new HistoryTests(checks).run();
+        new ToldTests(checks).run();
+        new WouldBeTests(checks).run();
+        new RandomTests(checks).run();
+        System.exit(checks.close());
+    }
+}
