@@ -196,5 +196,14 @@ final class GroundTests {
         c.due("tails(2, 14)", x.tails(2, 14), 97);
         c.due("tails(2, 1)", x.tails(2, 1), -3);
         c.due("tails(3, 1)", x.tails(3, 1), 6);
+        x.hire(0, 10, 2, 4);
+        c.due("out", x.tailsOf(2, 1), 2);
+        c.due("tails(2, 1), two out", x.tails(2, 1), -3);
+        x.back(1, 4);
+        x.back(2, 4);
+        c.due("lost", x.tailsOf(2, 2), 3);
+        c.due("tails(2, 1), three lost", x.tails(2, 1), -3);
+        x.found(2);
+        c.due("tails(2, 1), two lost", x.tails(2, 1), -3);
     }
 }

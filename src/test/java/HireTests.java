@@ -15,6 +15,8 @@ final class HireTests {
         c.test("promise 7: the reasons of a refusal", this::reasons);
         c.test("promise 7: the order of the reasons", this::reasonsInOrder);
         c.test("promise 7: the spool that a hire takes", this::spoolTaken);
+        c.test("promise 7: the spool that a hire takes, lost metres", this::spoolThatLost);
+        c.test("promise 7: ten hires at once", this::tenAtOnce);
         c.test("promise 7: at most 200 hires", this::hiresFull);
         c.test("promise 7: reasons at the last hours", this::lastHours);
         c.test("promise 8: back", this::back);
@@ -184,6 +186,60 @@ final class HireTests {
         x.hire(5, 25, 2, 0);
         c.due("the last one", x.hireOf(6, 1), 0);
         c.due("spoolOf(0, 2)", x.spoolOf(0, 2), 6);
+    }
+
+    private void spoolThatLost() {
+        KiteHire x = new KiteHire();
+        x.kite(0, 12, 9, 1);
+        x.kite(0, 12, 1, 1);
+        x.spool(60);
+        x.set(1, 20);
+        x.hire(0, 20, 1, 0);
+        x.pass(1);
+        x.spool(40);
+        x.set(1, 999);
+        x.hire(1, 36, 1, 0);
+        c.due("no spool for it", x.count(6), 1);
+        x.hire(1, 30, 1, 0);
+        c.due("the lowest of 40 metres", x.hireOf(1, 1), 0);
+        x.pass(1);
+        c.due("wear", x.spoolOf(0, 1), 4);
+        c.due("metres lost", x.spoolOf(0, 3), 20);
+        x.hire(1, 30, 2, 0);
+        c.due("less wear", x.hireOf(2, 1), 1);
+        x.pass(2);
+        c.due("wear", x.spoolOf(1, 1), 8);
+        x.hire(1, 30, 2, 0);
+        c.due("less wear, whatever was lost", x.hireOf(3, 1), 0);
+    }
+
+    private void tenAtOnce() {
+        KiteHire x = new KiteHire();
+        for (int kite = 0; kite < 11; kite++) {
+            x.kite(0, 12, 1, kite + 1);
+        }
+        for (int spool = 0; spool < 10; spool++) {
+            x.spool(100 + spool);
+        }
+        for (int hire = 0; hire < 10; hire++) {
+            c.due("hire", x.hire(10 - hire, 95, 12, 0), hire);
+            c.due("its spool", x.hireOf(hire, 1), hire);
+        }
+        c.due("why, no spool is in", x.why(0, 1, 1, 0), 4);
+        for (int round = 0; round < 12; round++) {
+            for (int hire = round; hire < round + 10; hire++) {
+                c.due("hire " + hire, x.hireOf(hire, 2), 95);
+            }
+            int kite = x.hireOf(round, 0);
+            x.back(round, 0);
+            c.due("hire in its place", x.hire(kite, 95, 12, 0), round + 10);
+            c.due("paid by hire " + (round + 10), x.hireOf(round + 10, 5), 12 * (kite + 1));
+        }
+        c.due("hires out", x.count(7), 10);
+        x.set(0, 1);
+        c.due("pass(1)", x.pass(1), 10);
+        c.due("coins, half of 12 for twelve hires", x.count(11), 6 * (11 + 10 + 9 + 8 + 7 + 6 + 5 + 4 + 3
+                + 2 + 11 + 10));
     }
 
     private void hiresFull() {
@@ -374,8 +430,11 @@ final class HireTests {
         c.due("kite is in", x.kiteOf(0, 0), 0);
         c.due("kite's hours", x.kiteOf(0, 5), 3);
         c.due("spool is in", x.spoolOf(0, 2), -5);
-        c.due("tails in", x.tailsOf(4, 0), 5);
-        c.due("tails lost", x.tailsOf(4, 2), 0);
+        for (int colour = 0; colour < 6; colour++) {
+            c.due("tails in", x.tailsOf(colour, 0), 5);
+            c.due("tails out", x.tailsOf(colour, 1), 0);
+            c.due("tails lost", x.tailsOf(colour, 2), 0);
+        }
     }
 
     private void redFlag() {

@@ -10,6 +10,7 @@ final class HistoryTests {
         c.test("promise 15: undo brings each act back", this::undoEach);
         c.test("promise 15: at most 4 states", this::atMostFour);
         c.test("promise 15: undo and new acts", this::undoAndOn);
+        c.test("promise 15: undo brings back how hires ended", this::undoEnded);
         c.test("promise 15: errors and NONE are not recorded", this::notRecorded);
         c.test("promise 15: what tells is not recorded", this::tellsNothing);
         c.test("promise 16: keep", this::keep);
@@ -93,6 +94,32 @@ final class HistoryTests {
         c.due("history", x.count(16), 1);
         c.due("undo()", x.undo(), 0);
         c.due("fee", x.count(20), 22);
+    }
+
+    private void undoEnded() {
+        KiteHire x = Looks.ready();
+        for (int hire = 0; hire < 9; hire++) {
+            x.hire(0, 10, 1, 0);
+            x.pass(1);
+        }
+        x.hire(0, 10, 3, 0);
+        x.keep();
+        x.back(9, 0);
+        for (int ago = 0; ago < 8; ago++) {
+            c.due("ended(" + ago + ", 0)", x.ended(ago, 0), 9 - ago);
+            c.due("ended(" + ago + ", 2)", x.ended(ago, 2), 9 - ago);
+        }
+        x.undo();
+        for (int ago = 0; ago < 8; ago++) {
+            c.due("ended(" + ago + ", 0) after undo", x.ended(ago, 0), 8 - ago);
+            c.due("ended(" + ago + ", 2) after undo", x.ended(ago, 2), 8 - ago);
+        }
+        x.pass(9);
+        x.restore();
+        for (int ago = 0; ago < 8; ago++) {
+            c.due("ended(" + ago + ", 3) after restore", x.ended(ago, 3), 1007);
+            c.due("ended(" + ago + ", 0) after restore", x.ended(ago, 0), 8 - ago);
+        }
     }
 
     private void notRecorded() {

@@ -15,6 +15,7 @@ final class WouldBeTests {
         c.test("promise 27: next, the last hours", this::nextAtTheEnd);
         c.test("promise 27: next, wrong values", this::nextWrong);
         c.test("promise 28: longest", this::longest);
+        c.test("promise 28: longest, without tails", this::longestWithoutTails);
         c.test("promise 28: longest, refused", this::longestRefused);
         c.test("promise 29: snapsIn", this::snapsIn);
         c.test("promise 29: snapsIn, hours that are not flown", this::snapsInCalm);
@@ -119,6 +120,17 @@ final class WouldBeTests {
         c.due("longest(0, 95)", x.longest(0, 95), 1);
         x.pass(1);
         c.due("longest(0, 95)", x.longest(0, 95), -5);
+    }
+
+    private void longestWithoutTails() {
+        KiteHire x = Looks.ready();
+        for (int hire = 0; hire < 5; hire++) {
+            x.hire(0, 10, 1, 63);
+            x.back(hire, 63);
+        }
+        c.due("why(0, 10, 1, 1)", x.why(0, 10, 1, 1), 5);
+        c.due("longest(0, 10)", x.longest(0, 10), 12);
+        c.due("dearest(10)", x.dearest(10), 0);
     }
 
     private void longestRefused() {
