@@ -12,6 +12,13 @@ public final class AllTests {
         new HistoryTests(checks).run();
         new ToldTests(checks).run();
         new WouldBeTests(checks).run();
+        new HoursEdges(checks).run();
+        new StockEdges(checks).run();
+        new HireEdges(checks).run();
+        new HourEdges(checks).run();
+        new TextEdges(checks).run();
+        new HistoryEdges(checks).run();
+        new ErrorEdges(checks).run();
         new RandomTests(checks).run();
         System.exit(checks.close());
     }
