@@ -9,9 +9,14 @@ final class Checks {
 
     private static final int MOST_SHOWN = 5;
 
+    private final boolean showsNames;
     private final List<String> wrong = new ArrayList<>();
     private int passed = 0;
     private int failed = 0;
+
+    Checks(boolean showsNames) {
+        this.showsNames = showsNames;
+    }
 
     void test(String name, Test test) {
         wrong.clear();
@@ -22,6 +27,9 @@ final class Checks {
         }
         if (wrong.isEmpty()) {
             passed++;
+            if (showsNames) {
+                System.out.println("passed " + name);
+            }
             return;
         }
         failed++;

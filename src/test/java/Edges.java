@@ -6,9 +6,6 @@ abstract class Edges {
     /** A kite for any wind and a spool of 100 metres. */
     static final String READY = " kite(0,12,1,7)=0 spool(100)=0 ";
 
-    /** Numbers that no range holds, but for 0. */
-    static final String[] FAR = {"MIN", "MAX", "-1", "65536", "1000000"};
-
     private final Checks c;
 
     Edges(Checks checks) {

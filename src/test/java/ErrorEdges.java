@@ -1,19 +1,24 @@
 /** The section 'ERRORS': a call that returns an error or NONE changes nothing, one test for each kind. */
 final class ErrorEdges extends Edges {
     /** Kite 0 is out with hire 1, kite 1 is in, kite 2 is lost; hire 0 snapped, and lost the tail 4. */
-    private static final String BUSY = " kite(0,12,1,9)=0 kite(4,12,1,8)=1 kite(0,12,9,7)=2 spool(40)=0 spool(50)=1 set(1,20)=120"
-            + " hire(2,30,2,16)=0 pass(1)=1 set(1,999)=20 hire(0,40,5,3)=1 pass(1)=0 keep()=2 text(w5x1;k3-3*1$1) ";
+    private static final String BUSY =
+            " kite(0,12,1,9)=0 kite(4,12,1,8)=1 kite(0,12,9,7)=2 spool(40)=0 spool(50)=1 set(1,20)=120"
+            + " hire(2,30,2,16)=0 pass(1)=1 set(1,999)=20 hire(0,40,5,3)=1 pass(1)=0 keep()=2"
+            + " text(w5x1;k3-3*1$1) ";
 
     /** All that BUSY has come to, told by hand. */
-    private static final String LOOK = " count(0)=2 count(1)=3 count(2)=1 count(3)=1 count(4)=1 count(5)=2 count(6)=2 count(7)=1"
-            + " count(8)=0 count(9)=0 count(10)=1 count(11)=77 count(12)=60 count(13)=30 count(14)=2 count(15)=0 count(16)=4"
-            + " count(17)=13 count(18)=8 count(19)=999 count(20)=15 count(21)=3 count(22)=5 perHour()=38.5"
-            + " kiteOf(0,0)=1 kiteOf(0,5)=1 kiteOf(0,6)=1 kiteOf(0,7)=1 kiteOf(1,0)=0 kiteOf(1,6)=0 kiteOf(1,7)=NONE kiteOf(2,0)=2"
-            + " kiteOf(2,5)=1 kiteOf(2,6)=1 kiteOf(2,7)=NONE kiteOf(3,0)=UNKNOWN spoolOf(0,0)=10 spoolOf(0,1)=0 spoolOf(0,2)=NONE"
-            + " spoolOf(0,3)=30 spoolOf(1,0)=50 spoolOf(1,1)=4 spoolOf(1,2)=1 spoolOf(1,3)=0 tailsOf(0,0)=4 tailsOf(0,1)=1 tailsOf(1,1)=1"
-            + " tailsOf(2,0)=5 tailsOf(4,0)=4 tailsOf(4,2)=1 hireOf(1,0)=0 hireOf(1,1)=1 hireOf(1,2)=40 hireOf(1,3)=4 hireOf(1,4)=3"
-            + " hireOf(1,5)=45 ended(0,0)=0 ended(0,1)=2 ended(0,2)=0 ended(0,3)=1032 ended(1,0)=NONE windOf(0)=4 windOf(2)=4"
-            + " windOf(999)=4 fault()=NONE ";
+    private static final String LOOK =
+            " count(0)=2 count(1)=3 count(2)=1 count(3)=1 count(4)=1 count(5)=2 count(6)=2 count(7)=1"
+            + " count(8)=0 count(9)=0 count(10)=1 count(11)=77 count(12)=60 count(13)=30 count(14)=2"
+            + " count(15)=0 count(16)=4 count(17)=13 count(18)=8 count(19)=999 count(20)=15 count(21)=3"
+            + " count(22)=5 perHour()=38.5 kiteOf(0,0)=1 kiteOf(0,5)=1 kiteOf(0,6)=1 kiteOf(0,7)=1"
+            + " kiteOf(1,0)=0 kiteOf(1,6)=0 kiteOf(1,7)=NONE kiteOf(2,0)=2 kiteOf(2,5)=1 kiteOf(2,6)=1"
+            + " kiteOf(2,7)=NONE kiteOf(3,0)=UNKNOWN spoolOf(0,0)=10 spoolOf(0,1)=0 spoolOf(0,2)=NONE"
+            + " spoolOf(0,3)=30 spoolOf(1,0)=50 spoolOf(1,1)=4 spoolOf(1,2)=1 spoolOf(1,3)=0"
+            + " tailsOf(0,0)=4 tailsOf(0,1)=1 tailsOf(1,1)=1 tailsOf(2,0)=5 tailsOf(4,0)=4 tailsOf(4,2)=1"
+            + " hireOf(1,0)=0 hireOf(1,1)=1 hireOf(1,2)=40 hireOf(1,3)=4 hireOf(1,4)=3 hireOf(1,5)=45"
+            + " ended(0,0)=0 ended(0,1)=2 ended(0,2)=0 ended(0,3)=1032 ended(1,0)=NONE windOf(0)=4"
+            + " windOf(2)=4 windOf(999)=4 fault()=NONE ";
 
     ErrorEdges(Checks checks) {
         super(checks);

@@ -36,6 +36,15 @@ final class HireEdges extends Edges {
         return run.append(' ').toString();
     }
 
+    /** Ten hires more, for an hour. */
+    private static String tenHires(int first) {
+        StringBuilder run = new StringBuilder();
+        for (int kite = 0; kite < 10; kite++) {
+            run.append("hire(").append(kite).append(",1,1,0)=").append(first + kite).append(' ');
+        }
+        return run.toString();
+    }
+
     private void hiresThatCome() {
         edge("HIRES: 'A hire has a number (from 0, in the order in which they came)': none yet",
                 "hireOf(0,0)=UNKNOWN hireOf(-1,0)=UNKNOWN back(0,0)=UNKNOWN snapsIn(0)=UNKNOWN count(6)=0");
@@ -168,8 +177,8 @@ final class HireEdges extends Edges {
         taken("HIRES: '6 ..': an hour in the hour 999", 0, "0,1,1,0", SMALL, Script.hours(999));
         refused("HIRES: '6 ..': two hours in the hour 999", 6, "0,1,2,0", SMALL, Script.hours(999));
         refused("HIRES: '6 ..': an hour in the hour 1000", 6, "0,1,1,0", SMALL, Script.hours(1000));
-        refused("HIRES: 'hours above 999 have no wind: the reasons 2 and 3 do not hold': the kite flies in no wind",
-                6, "2,1,1,0", SMALL, "kite(12,12,1,1)=2 kite(0,0,1,1)=3", Script.hours(1000),
+        refused("HIRES: 'hours above 999 have no wind: the reasons 2 and 3 do not hold for them'", 6,
+                "2,1,1,0", SMALL, "kite(12,12,1,1)=2 kite(0,0,1,1)=3", Script.hours(1000),
                 "why(3,1,1,0)=6");
         refused("HIRES: 'hours above 999 have no wind ..': but those up to 999 have", 2, "0,1,2,0", SMALL,
                 "wind(999,999,8)=1", Script.hours(999));
@@ -205,39 +214,38 @@ final class HireEdges extends Edges {
 
     /** In way 0 the wind is above the kite's greatest, in way 1 the red flag is up; in way 2 it is lost. */
     private void together(int set, int way) {
-        StringBuilder run = new StringBuilder(" kite(5,9,9,5)=0 kite(0,12,1,1)=1 spool(20)=0 spool(20)=1 set(0,13)=8 ");
         int now = holds(set, 6) ? 989 : 988;
-        run.append(Script.hours(now - 1));
+        StringBuilder run = new StringBuilder(" kite(5,9,9,5)=0 kite(0,12,1,1)=1 spool(20)=0 spool(20)=1")
+                .append(" set(0,13)=8 ").append(Script.hours(now - 1));
         int hires = 0;
         for (int tail = 0; tail < 5 && holds(set, 5); tail++) {
             run.append("hire(1,1,1,16)=").append(hires).append(" back(").append(hires).append(",16) ");
             hires++;
         }
-        String winds = "wind(" + (now - 1) + "," + (now - 1) + ",5)=1 wind(" + now + "," + now + ",6)=1 ";
-        run.append(winds);
+        run.append(wind(now - 1, 5)).append(wind(now, 6));
         if (holds(set, 1)) {
-            run.append(way == 2 ? "set(1,20)=120 " : "");
-            run.append("hire(0,1,").append(way == 2 ? 1 : 3).append(",0)=").append(hires).append(' ');
+            run.append(way == 2 ? "set(1,20)=120 hire(0,1,1,0)=" : "hire(0,1,3,0)=").append(hires);
             hires++;
         }
-        run.append("pass(1)=").append(holds(set, 1) && way == 2 ? 1 : 0).append(' ');
+        run.append(holds(set, 1) && way == 2 ? " pass(1)=1 " : " pass(1)=0 ");
         if (holds(set, 2)) {
-            int wind = way == 1 ? 8 : 10;
-            run.append(way == 1 ? "set(0,8)=13 " : "");
-            run.append("wind(").append(now + 9).append(',').append(now + 9).append(',').append(wind).append(")=1 ");
+            run.append(way == 1 ? "set(0,8)=13 " : "").append(wind(now + 9, way == 1 ? 8 : 10));
         }
-        if (holds(set, 3)) {
-            run.append("wind(").append(now).append(',').append(now).append(",4)=1 ");
-        }
+        run.append(holds(set, 3) ? wind(now, 4) : "");
         int reason = set == 0 ? 0 : Integer.numberOfTrailingZeros(set) + 1;
         String args = "(0," + (holds(set, 4) ? 16 : 15) + ",12,16)=";
         run.append("why").append(args).append(reason).append(" hire").append(args)
                 .append(reason == 0 ? hires : -10 - reason);
-        StringBuilder name = new StringBuilder("HIRES: 'the first of these reasons that holds', way ").append(way).append(':');
+        StringBuilder name = new StringBuilder("HIRES: 'the first of these reasons that holds', way ");
+        name.append(way).append(':');
         for (int each = 1; each <= 6; each++) {
             name.append(holds(set, each) ? " " + each : "");
         }
         edge(name.toString(), run.toString());
+    }
+
+    private static String wind(int hour, int wind) {
+        return "wind(" + hour + "," + hour + "," + wind + ")=1 ";
     }
 
     // ---- what a hire takes and pays
@@ -283,6 +291,12 @@ final class HireEdges extends Edges {
     private void paying() {
         edge("HIRES: 'It pays the price for all its hours at once': one hour, one coin",
                 "kite(0,12,1,1)=0 spool(20)=0 hire(0,1,1,0)=0 count(11)=1 hireOf(0,5)=1");
+        edge("HIRES: 'the coins that it has paid so far': none of an earlier hire's, ten at once", hires(10),
+                "ended(0,3)=1001 ended(7,3)=1001", tenHires(10),
+                "hireOf(10,5)=1 hireOf(19,5)=1 pass(1)=10 ended(0,3)=1001 ended(7,3)=1001 count(11)=20");
+        edge("HIRES: 'the coins that it has paid so far': none of an earlier hire's, the last of ten",
+                hires(9), "hire(9,1,2,0)=9 back(9,0)=1001 hire(9,1,1,0)=10 hireOf(10,5)=1 back(0,0)=1000",
+                "hire(0,1,1,0)=11 hireOf(11,5)=1 hireOf(10,5)=1");
         edge("HIRES: 'It pays the price for all its hours at once': twelve hours, 99 coins",
                 "kite(0,12,1,99)=0 spool(20)=0 hire(0,1,12,63)=0 count(11)=1188 hireOf(0,5)=1188 pass(1)",
                 "count(11)=1188");
@@ -470,6 +484,8 @@ final class HireEdges extends Edges {
                 "wind(0,987,3)=988 next(0,12)=988 next(0,1)=988");
         edge("promise 27: the reason 6: its last hour would be 1000", kite,
                 "wind(0,988,3)=989 next(0,12)=NONE next(0,11)=989");
+        edge("promise 27: the reason 6: in the hour 988, twelve hours", kite, Script.hours(988),
+                "next(0,12)=988 pass(1) next(0,12)=NONE next(0,11)=989");
         edge("promise 27: the hour 999 for an hour", kite, "wind(0,998,3)=999 next(0,1)=999 next(0,2)=NONE");
         edge("promise 27: 'NONE if there is none'", kite, "wind(0,999,3)=1000 next(0,1)=NONE");
         edge("promise 27: hours, '1 to 12': one below and one above", kite,
@@ -549,6 +565,8 @@ final class HireEdges extends Edges {
                 numbered(READY + Script.times(5, "hire(0,1,1,1) back(#,1)")), "dearest(1)=0");
         edge("promise 32: the last of 16 kites", Script.times(15, "kite(0,12,1,98)"),
                 "spool(9)=0 kite(0,12,1,99)=15 dearest(1)=15");
+        edge("promise 32: 'for the most coins': one coin is enough",
+                "kite(0,4,1,1)=0 spool(9)=0 wind(1,1,5)=1 longest(0,1)=1 dearest(1)=0");
         edge("promise 32: metres, '1 to 300': the greatest", READY, "spool(300)=1 set(4,0) dearest(300)=0");
         edge("promise 32: metres, '1 to 300': one below and one above", READY,
                 "dearest(0)=BAD dearest(301)=BAD dearest(-1)=BAD");

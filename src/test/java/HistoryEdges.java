@@ -1,21 +1,27 @@
 /** The section 'HISTORY' and promises 15 to 17: their boundary cases. */
 final class HistoryEdges extends Edges {
-    private static final String[] ACTS = {"wind(9,9,5)=1", "kite(1,2,3,4)=2", "spool(7)=2", "tails(4,2)=7",
-        "text(w6x2;k0-0*1$1) tellAll()=2", "hire(1,1,1,0)=2", "back(1,1)=1010", "found(2)=5", "pass(3)=1",
-        "set(2,9)=15", "restore()=2"};
-    private static final String[] NAMES = {"wind", "kite", "spool", "tails", "tellAll", "hire", "back", "found",
-        "pass", "set", "restore"};
-    private static final String[] REFUSED = {"wind(9,9,4)=NONE", "wind(9,9,13)=BAD", "kite(2,1,3,4)=BAD", "spool(0)=BAD",
-        "tails(6,2)=UNKNOWN", "tails(4,0)=BAD", "text(w) tellAll()=-101", "text(k2-1*1$1) tellAll()=BAD", "hire(2,1,1,0)=UNKNOWN",
-        "hire(1,0,1,0)=BAD", "hire(0,1,1,0)=-11", "hire(1,60,1,0)=-14", "back(0,0)=UNKNOWN", "back(1,2)=BAD",
-        "found(6)=UNKNOWN", "found(3)=NONE", "pass(0)=BAD", "set(5,0)=BAD", "set(2,15)=NONE"};
-    private static final String[] ASKED = {"kiteOf(0,0)=1", "spoolOf(0,0)=40", "tailsOf(0,0)=4", "hireOf(1,0)=0", "ended(0,0)=0",
-        "windOf(0)=4", "count(0)=2", "count(6)=2", "perHour()=26.5", "why(1,1,1,0)=0", "next(0,12)=2", "longest(1,1)=12", "snapsIn(1)=28",
-        "flyable(2)=2", "ifPassed(99,4)=100000", "dearest(1)=1", "fault()=0", "type(w)=1", "clearText()=0", "keep()=2"};
+    private static final String[] ACTS = {
+        "wind(9,9,5)=1", "kite(1,2,3,4)=2", "spool(7)=2", "tails(4,2)=7", "text(w6x2;k0-0*1$1) tellAll()=2",
+        "hire(1,1,1,0)=2", "back(1,1)=1010", "found(2)=5", "pass(3)=1", "set(2,9)=15", "restore()=2"};
+    private static final String[] NAMES = {
+        "wind", "kite", "spool", "tails", "tellAll", "hire", "back", "found", "pass", "set", "restore"};
+    private static final String[] REFUSED = {
+        "wind(9,9,4)=NONE", "wind(9,9,13)=BAD", "kite(2,1,3,4)=BAD", "spool(0)=BAD", "tails(6,2)=UNKNOWN",
+        "tails(4,0)=BAD", "text(w) tellAll()=-101", "text(k2-1*1$1) tellAll()=BAD", "hire(2,1,1,0)=UNKNOWN",
+        "hire(1,0,1,0)=BAD", "hire(0,1,1,0)=-11", "hire(1,60,1,0)=-14", "back(0,0)=UNKNOWN",
+        "back(1,2)=BAD", "found(6)=UNKNOWN", "found(3)=NONE", "pass(0)=BAD", "set(5,0)=BAD",
+        "set(2,15)=NONE"};
+    private static final String[] ASKED = {
+        "kiteOf(0,0)=1", "spoolOf(0,0)=40", "tailsOf(0,0)=4", "hireOf(1,0)=0", "ended(0,0)=0",
+        "windOf(0)=4", "count(0)=2", "count(6)=2", "perHour()=26.5", "why(1,1,1,0)=0", "next(0,12)=2",
+        "longest(1,1)=12", "snapsIn(1)=28", "flyable(2)=2", "ifPassed(99,4)=100000", "dearest(1)=1",
+        "fault()=0", "type(w)=1", "clearText()=0", "keep()=2"};
 
     /** Hire 0 came back with the tail 2 missing, hire 1 is out for 3 hours; a snapshot; one state. */
-    private static final String BUSY = " kite(0,12,1,9)=0 kite(0,12,1,9)=1 spool(40)=0 spool(50)=1 hire(0,9,3,4)=0 pass(2)=0"
-            + " back(0,4)=1001 hire(0,9,3,1)=1 keep()=2 undo()=3 undo()=2 undo()=1 undo()=0 restore()=2 count(16)=1 ";
+    private static final String BUSY =
+            " kite(0,12,1,9)=0 kite(0,12,1,9)=1 spool(40)=0 spool(50)=1 hire(0,9,3,4)=0 pass(2)=0"
+            + " back(0,4)=1001 hire(0,9,3,1)=1 keep()=2 undo()=3 undo()=2 undo()=1 undo()=0 restore()=2"
+            + " count(16)=1 ";
 
     HistoryEdges(Checks checks) {
         super(checks);
@@ -165,6 +171,16 @@ final class HistoryEdges extends Edges {
                 "keep()=0 wind(50,60,9)=11 set(0,3) set(1,30) set(2,1) set(3,1) set(4,1) tails(5,3) pass(9)",
                 "restore()=0 windOf(50)=4 windOf(60)=4 count(18)=8 count(19)=120 count(20)=15 count(21)=3",
                 "count(22)=5 tailsOf(5,0)=5 count(0)=0");
+        StringBuilder eight = new StringBuilder(READY);
+        for (int hire = 0; hire < 8; hire++) {
+            eight.append("hire(0,1,1,0)=").append(hire).append(" pass(1)=1 ");
+        }
+        edge("HISTORY: 'A state is everything': the eighth of the hires that ended is told again",
+                eight.toString(), "hire(0,1,2,0)=8 back(8,0) ended(7,0)=1 undo()=3 ended(7,0)=0 ended(0,0)=7",
+                "ended(7,2)=0 ended(0,2)=7");
+        edge("HISTORY: 'A state is everything': how hires ended in the snapshot, though others ended since",
+                READY, "hire(0,1,2,0)=0 back(0,0) keep()=0 undo()=3 pass(2)=1 ended(0,2)=1 ended(0,3)=1014",
+                "restore()=0 ended(0,2)=0 ended(0,3)=1007");
         edge("HISTORY: 'A state is everything': how hires ended", READY,
                 "hire(0,1,1,0)=0 pass(1)=1 keep()=1 hire(0,1,2,0)=1 back(1,0) ended(0,0)=1 ended(1,0)=0",
                 "restore()=1 ended(0,0)=0 ended(1,0)=NONE count(8)=1 count(6)=1 perHour()=7");

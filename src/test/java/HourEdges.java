@@ -109,7 +109,7 @@ final class HourEdges extends Edges {
         edge("AN HOUR: 'If the wear is the strength of a line or more': the wear of earlier hires counts",
                 "kite(0,12,5,1)=0 spool(60)=0 set(1,60) hire(0,9,2,0)=0 pass(2)=1 hire(0,9,1,0)=1 pass(1)=1",
                 "ended(0,0)=1 ended(0,1)=2");
-        edge("AN HOUR: 'If the wear is the strength of a line or more': a strength that was made less, in the next hour flown",
+        edge("AN HOUR: 'If the wear is the strength of a line or more': made less, the next hour flown",
                 STRONG,
                 "pass(3)=0 spoolOf(0,1)=108 set(1,108) hireOf(0,3)=9 wind(3,3,0)=1 pass(1)=1 count(10)=1");
         edge("AN HOUR: 'If the wear is the strength of a line or more': the greatest strength", STRONG,
@@ -262,7 +262,8 @@ final class HourEdges extends Edges {
                 "ended(0,0)=0 ended(0,3)=1011 ended(1,0)=NONE");
         StringBuilder eight = new StringBuilder(READY);
         for (int hire = 0; hire < 8; hire++) {
-            eight.append("hire(0,1,").append(1 + hire).append(",0)=").append(hire).append(" back(").append(hire).append(",0) ");
+            eight.append("hire(0,1,").append(1 + hire).append(",0)=").append(hire);
+            eight.append(" back(").append(hire).append(",0) ");
         }
         edge("promise 22: 'the latest 8 hires that ended': seven", eight.toString(),
                 "undo() ended(6,0)=0 ended(7,0)=NONE ended(0,0)=6");
@@ -318,6 +319,14 @@ final class HourEdges extends Edges {
                 "snapsIn(0)=NONE");
         edge("promise 29: 'NONE if not up to the hour 999': no wind at all", STRONG,
                 "wind(0,999,0)=1000 snapsIn(0)=NONE");
+        edge("promise 29: 'NONE if not up to the hour 999': the wear is enough, but it flies no more",
+                Script.hours(997),
+                "kite(4,6,9,1)=0 spool(9)=0 hire(0,1,3,0)=0 pass(1)=0 set(1,20) snapsIn(0)=1",
+                "wind(998,998,3)=1 snapsIn(0)=2 wind(999,999,3)=1 snapsIn(0)=NONE pass(2)=1 count(10)=0");
+        edge("promise 29: of its own kite and spool", "kite(0,12,1,1)=0 kite(0,3,9,1)=1 kite(0,12,4,1)=2",
+                "spool(10)=0 spool(20)=1 spool(30)=2 hire(2,15,3,0)=0 hire(0,25,3,0)=1 hireOf(0,1)=1",
+                "hireOf(1,1)=2 snapsIn(0)=8 snapsIn(1)=30 pass(3)=2 spoolOf(1,1)=48 spoolOf(2,1)=12",
+                "hire(0,15,9,0)=2 hire(2,25,9,0)=3 snapsIn(2)=18 snapsIn(3)=7 snapsIn(0)=UNKNOWN");
         edge("promise 29: the hours from 0 to 999 are a thousand", STRONG,
                 "wind(0,998,0)=999 set(1,36) snapsIn(0)=1000 wind(0,0,4)=1 snapsIn(0)=1");
         edge("promise 29: a strength that was made less: in the next hour flown", OUT,

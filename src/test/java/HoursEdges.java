@@ -35,6 +35,8 @@ final class HoursEdges extends Edges {
         edge("promise 1: 'a hut without .. spools'",
                 "count(5)=0 count(12)=0 count(13)=0 spoolOf(0,0)=UNKNOWN");
         edge("promise 1: 'in the hour 0'", "count(0)=0");
+        edge("promise 1: 'used for at most 512 calls': the last of them answers as the first",
+                Script.times(255, "wind(0,0,5)=1 wind(0,0,4)=1"), "undo()=3 undo()=2");
         edge("promise 1: a new object has no hires, coins, history and text",
                 "count(6)=0 count(7)=0 count(8)=0 count(9)=0 count(10)=0 count(11)=0 count(14)=0 count(15)=0",
                 "count(16)=0 count(17)=0 hireOf(0,0)=UNKNOWN ended(0,0)=NONE perHour()=0 fault()=0",
@@ -170,6 +172,9 @@ final class HoursEdges extends Edges {
                 "set(0,1)=8 why(0,10,1,0)=6 hire(0,10,12,0)=-16");
         edge("behind the hour 999: nothing can be hired",
                 READY, BEHIND, "next(0,1)=NONE next(0,12)=NONE longest(0,10)=NONE dearest(10)=NONE");
+        edge("behind the hour 999: a hire up to it has ended", Script.hours(988), READY,
+                "hire(0,10,12,63)=0 pass(12)=1 count(0)=1000 hireOf(0,0)=UNKNOWN snapsIn(0)=UNKNOWN",
+                "back(0,0)=UNKNOWN ended(0,2)=999 kiteOf(0,0)=0 tailsOf(0,1)=0");
         edge("behind the hour 999: nothing more happens", READY, BEHIND,
                 "ifPassed(1,0)=0 ifPassed(1,1)=0 ifPassed(99,2)=0 ifPassed(99,3)=0 ifPassed(99,4)=100000");
         edge("behind the hour 999: winds are told as before", "kite(4,4,1,1)=0", BEHIND,
@@ -240,6 +245,8 @@ final class HoursEdges extends Edges {
         edge("promise 25: 'divided by the hours flown': one", READY, "hire(0,1,1,0)=0 pass(1)=1 perHour()=7");
         edge("promise 25: 'as a double': a part of a coin",
                 "kite(0,12,1,1)=0 spool(9)=0 hire(0,1,12,0)=0 pass(8) back(0,0)=1002 perHour()=1.25");
+        edge("promise 25: 'as a double': a number that ends nowhere", READY,
+                "hire(0,1,4,0)=0 pass(3)=0 back(0,0)=1003 count(11)=25 perHour()=8.333333333333334");
         edge("promise 25: coins that are given back count no more",
                 READY, "hire(0,1,4,0)=0 pass(1) perHour()=28 set(0,1)=8 pass(1)=1 count(11)=7 perHour()=7");
         edge("promise 25: hours that do not fly count not",

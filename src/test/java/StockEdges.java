@@ -225,6 +225,11 @@ final class StockEdges extends Edges {
                 READY, eightyFive, "hire(0,1,1,8)=0 back(0,8) tails(3,14)=98 tailsOf(3,2)=1");
         edge("promise 5: 'more than 99 .. in, out and lost together': one is lost, 100",
                 READY, eightyFive, "hire(0,1,1,8)=0 back(0,8) tails(3,15)=FULL tailsOf(3,0)=84");
+        edge("promise 5: 'more than 99 .. in, out and lost together': one is out and one is lost, 99", READY,
+                eightyFive, "hire(0,1,1,8)=0 back(0,8) hire(0,1,1,8)=1 tails(3,14)=97 tailsOf(3,1)=1",
+                "tailsOf(3,2)=1 tails(3,1)=FULL");
+        edge("promise 5: 'more than 99 .. in, out and lost together': one is out and one is lost, 100", READY,
+                eightyFive, "hire(0,1,1,8)=0 back(0,8) hire(0,1,1,8)=1 tails(3,15)=FULL tailsOf(3,0)=83");
         edge("promise 5: 'more than 99 of it': the other colours do not count",
                 eightyFive, Script.times(4, "tails(2,20)"), "tails(3,14)=99 tails(2,14)=99 tails(4,20)=25");
         edge("promise 9: with 99 in and lost together, one that is found is still in", READY,
@@ -280,6 +285,10 @@ final class StockEdges extends Edges {
         edge("promise 30: 'as a set': none of several, and the last of 16", Script.times(15, "kite(0,3,1,1)"),
                 "flyable(0)=0 kite(4,4,1,1)=15 flyable(0)=32768 wind(5,5,3)=1 flyable(5)=32767");
         edge("promise 30: 'as a set': all of 16", Script.times(16, "kite(0,12,1,1)"), "flyable(0)=65535");
+        edge("promise 30: 'the kites': in no wind none that did not come", "wind(0,3,0)=4 flyable(3)=0",
+                "kite(1,12,1,1)=0 flyable(3)=0 kite(0,12,1,1)=1 flyable(3)=2 flyable(4)=3");
+        edge("promise 30: 'the kites': in no wind all of 16, and no more", Script.times(16, "kite(0,0,1,1)"),
+                "wind(3,3,0)=1 flyable(3)=65535 flyable(4)=0");
         edge("promise 30: hour, the first and the last", kites, "flyable(0)=1 flyable(999)=1");
         edge("promise 30: hour, one below and one above", kites, "flyable(-1)=UNKNOWN flyable(1000)=UNKNOWN");
         edge("promise 30: hour, the ends of int", kites, "flyable(MIN)=UNKNOWN flyable(MAX)=UNKNOWN");

@@ -229,7 +229,7 @@ final class TextEdges extends Edges {
         edge("TEXTS: 'each one behind the one before'",
                 "text(w5x2;w6x3;w7x1) tellAll()=3 windOf(1)=5 windOf(2)=6 windOf(4)=6 windOf(5)=7",
                 "windOf(6)=4");
-        edge("TEXTS: 'the first part of this kind .. each one behind the one before': kites between them take no hours",
+        edge("TEXTS: 'each one behind the one before': kites between them take no hours",
                 "text(k0-0*1$1;w5x2;k1-1*1$1;w6x2;k2-2*1$1) tellAll()=5 windOf(0)=5 windOf(1)=5 windOf(2)=6",
                 "windOf(3)=6 windOf(4)=4 count(1)=3");
         edge("promise 6: told again, it begins with the hour that is then now",
