@@ -6,6 +6,7 @@ public final class AllTests {
     public static void main(String[] args) {
         Checks checks = new Checks(args.length > 0 && args[0].equals("names"));
         new FaceTests(checks).run();
+        new ReadmeTests(checks).run();
         new GroundTests(checks).run();
         new HireTests(checks).run();
         new TextTests(checks).run();
